@@ -28,6 +28,9 @@ final class AheadTest {
         pond.lay(15, 18, 0, 0);
         due("13: a corner weighs 4 k: 36 on 32", pond.when(9), 1);
         due("13: a corner weighs 4 k: 32 on 32", pond.when(8), 0);
+        pond.lay(15, 24, 0, 0);
+        pond.lay(0, 18, 0, 0);
+        due("13: the first corner too", pond.when(9), 1);
         due("13: never", new IceBears().when(1), -5);
         due("13: behind 240", under("frost 30 d=9&h=23").when(1), 240);
         due("13: 241 is never", under("frost 30 d=10&h=0").when(1), -5);
@@ -56,6 +59,7 @@ final class AheadTest {
         due("14: what -1", pond.thin(0, -1), IceBears.NONE);
         due("14: it changes nothing", pond.of(6, 0), 20);
         due("14: all of none are half of it", new IceBears().thin(99, 2), 16);
+        due("14: the first of all", new IceBears().thin(99, 0), 0);
         IceBears one = new IceBears();
         one.lay(0, 1, 0, 0);
         due("14: least cell of many", one.thin(5, 0), 1);
@@ -124,6 +128,13 @@ final class AheadTest {
         due("16: what 2, ahead of n", pond.sweep(0, 2), IceBears.NONE);
         due("16: what -1", pond.sweep(1, -1), IceBears.NONE);
         due("16: it changes nothing", pond.of(3, 2), 8);
+        pond.lay(0, 10, 0, 8);
+        due("16: the first of all", pond.sweep(1, 0), 0);
+        pond.lay(0, 10, 0, 9);
+        pond.lay(1, 10, 0, 9);
+        due("16: the second is no better", pond.sweep(9, 0), 0);
+        pond.lay(1, 10, 0, 99);
+        due("16: the second is better", pond.sweep(9, 0), 1);
         IceBears thaw = under("thaw 5 h<24");
         for (int cell = 0; cell < 16; cell++) thaw.lay(cell, 20, 0, 5);
         due("16: it may be worse everywhere", thaw.sweep(1, 1), -5);
@@ -145,6 +156,22 @@ final class AheadTest {
         due("17: behind 99 nothing is left of those", pond.lamp(99), 10);
         due("17: it changes nothing", pond.of(15, 0), 50);
         due("17: of several the least", new IceBears().lamp(9), 0);
+        IceBears top = new IceBears();
+        int[] nearOne = {0, 2, 5};
+        for (int cell : nearOne) top.lay(cell, 50, 0, 0);
+        due("17: at 1 three melt", top.lamp(1), 1);
+        IceBears ends = new IceBears();
+        ends.lay(0, 50, 0, 0);
+        ends.lay(15, 50, 0, 0);
+        due("17: at either end one melts", ends.lamp(1), 0);
+        ends.lay(4, 50, 0, 0);
+        ends.lay(15, 3, 0, 0);
+        ends.lay(14, 3, 0, 0);
+        ends.lay(11, 1, 0, 0);
+        due("17: 3 and 3 and 1 are more than 3 and 3", ends.lamp(1), 15);
+        ends.lay(15, 2, 0, 0);
+        ends.lay(14, 2, 0, 0);
+        due("17: 2 and 2 and 1 are less", ends.lamp(1), 0);
         IceBears frost = under("frost 2 h<24");
         for (int cell = 0; cell < 16; cell++) frost.lay(cell, 50, 0, 0);
         due("17: five melt from the middle on", frost.lamp(1), 5);
@@ -182,9 +209,11 @@ final class AheadTest {
         due("18: best of one hour", pond.board(1, 0, 2), 11);
         pond.children(5, 0);
         pond.children(15, 2);
-        pond.children(14, 2);
-        pond.children(11, 2);
-        due("18: 8 on 10", pond.board(1, 0, 1), 0);
+        pond.children(14, 3);
+        pond.children(11, 3);
+        due("18: 10 on 10", pond.board(1, 0, 1), 0);
+        pond.children(15, 3);
+        due("18: 12 on 10", pond.board(1, 0, 1), 1);
         due("18: n 0", pond.board(0, 0, 0), IceBears.BAD);
         due("18: n 241", pond.board(241, 0, 0), IceBears.BAD);
         due("18: n 240", pond.board(240, 0, 0) >= 0 ? 1 : 0, 1);
@@ -210,6 +239,10 @@ final class AheadTest {
         due("18: 990 was wrong", pond.board(10, 0, 2), 991);
         due("18: 1089 was wrong", pond.board(11, 0, 2), -5);
         due("18: green at 999", pond.board(11, 999, 0), 1);
+        Check.read(pond, "frost 99 h<10;frost 8 h=10;bears 99");
+        due("18: 998 was wrong", pond.board(11, 0, 2), 999);
+        Check.read(pond, "frost 99 h<10;frost 9 h=10;bears 99");
+        due("18: 999 was wrong", pond.board(11, 0, 2), -5);
     }
 
     private static void whereToRopeOff() {
@@ -231,6 +264,8 @@ final class AheadTest {
         IceBears last = new IceBears();
         last.children(15, 1);
         due("19: the last column", last.rope(), 3);
+        last.children(0, 1);
+        due("19: the first cell", last.rope(), 0);
     }
 
     public static void main(String[] args) {

@@ -32,6 +32,10 @@ final class HolesTest {
         due("21: no holes", pond.off(0), 0);
         Check.read(pond, "frost 5 h<24");
         due("22: of several the least", pond.likely(), 0);
+        pond.image();
+        pond.hole(0, 0, 7);
+        due("21: behind no hour", pond.off(0), 7);
+        pond.undo();
         pond.hole(0, 0, 0);
         pond.hole(1, 2, 20);
         pond.hole(2, 4, 20);
@@ -146,6 +150,12 @@ final class HolesTest {
         pond.odds(2, 5);
         // .7 .6 .5 + .7 .6 .5 + .7 .4 .5 + .3 .6 .5
         sure("25: two of three", pond, 72, 13, 20);
+        // All four make 25, which bears 6 of 99; three make 21, which bears 4.
+        pond.children(0, 3);
+        for (int k = 0; k < 4; k++) pond.odds(k, 9);
+        sure("25: all four, none warm", pond, 96, 1, 10000);
+        for (int k = 0; k < 4; k++) pond.odds(k, 1);
+        sure("25: all four, hardly warm", pond, 96, 6561, 10000);
     }
 
     private static void theFifthDayIsAsTold() {

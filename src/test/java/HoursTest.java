@@ -117,6 +117,11 @@ final class HoursTest {
         ice("12: all", pond, 3, 0, 0, 0);
         ice("12: no whitening then", pond, 4, 20, 20, 10);
         ice("12: sunned at night", pond, 5, 10, 0, 0);
+        IceBears calm = new IceBears();
+        calm.place(0, 2, 0);
+        calm.lay(0, 20, 20, 5);
+        calm.go(1);
+        ice("12: nothing in no cold, no whitening either", calm, 0, 20, 20, 5);
         IceBears mixed = under("thaw 10 h<24;snow 6 h<24");
         mixed.lay(0, 20, 20, 1);
         mixed.go(1);

@@ -27,6 +27,9 @@ final class ImageTest {
         due("26: the last", pond.judge(2, 4), 15);
         pond.item(2, 4 + 7, 71L | 1L << 40);
         due("26: the first of two; longs are looked at whole", pond.judge(2, 4), 7);
+        pond.tape(1, 3, 16);
+        tell(pond, 1, 0);
+        due("26: from the first place on", pond.judge(1, 0), -5);
         pond.tape(2, 3, 19);
         tell(pond, 2, 4);
         due("26: the row ends ahead of the last", pond.judge(2, 4), 115);
@@ -57,6 +60,7 @@ final class ImageTest {
         pond.lay(3, 7, 9, 2);
         pond.children(3, 4);
         pond.place(3, 5, 8);
+        pond.place(4, 3, 8);
         pond.warm(2, true);
         pond.odds(1, 6);
         pond.hole(3, 4, 5);
@@ -66,6 +70,7 @@ final class ImageTest {
         pond.children(3, 5);
         pond.children(9, 5);
         pond.place(3, 6, 7);
+        pond.place(4, 3, 7);
         pond.warm(2, false);
         pond.warm(7, true);
         pond.odds(1, 7);
@@ -76,6 +81,7 @@ final class ImageTest {
         due("28: all is as it was", Check.state(pond).equals(before) ? 1 : 0, 1);
         due("28: odds", pond.odds(1, 6), 6);
         due("28: other odds", pond.odds(3, 0), 0);
+        due("28: cold by its number", pond.cold(4), 1);
         due("28: kind", pond.place(3, 5, 8), 5);
         due("28: warm day", pond.warm(2, true), 1);
         due("28: no warm day", pond.warm(7, false), 0);

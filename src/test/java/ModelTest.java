@@ -1,6 +1,6 @@
 /** Long runs of calls, drawn by a fixed rule, on the program and on the plain model side by side. */
 final class ModelTest {
-    private static final int RUNS = 1500, CALLS = 512;
+    private static final int RUNS = 1200, CALLS = 512;
     private static final int[] ODD_NUMBERS = {
         -1, -2, 0, 1, 2, 3, 4, 5, 6, 7, 9, 10, 11, 15, 16, 24, 59, 60, 61, 96, 97, 99, 100, 239, 240, 241,
         999, 1000, 1499, 1500, Integer.MAX_VALUE, Integer.MIN_VALUE};
@@ -162,6 +162,34 @@ final class ModelTest {
         due(run, "judge", x.judge(tape, from2), y.judge(tape, from2));
     }
 
+    /** Ice that bears on some days and not on others, so that odds matter. */
+    private void begin(int run, IceBears x, Model y) {
+        int thick = next(40), bears = 1 + next(99);
+        say(run, x, y, "frost " + (1 + next(9)) + " w=0&h<" + (1 + next(24)) + ";thaw " + next(20) + " w=1;bears " + bears);
+        for (int cell = 0; cell < 16; cell++) due(run, "lay", x.lay(cell, thick, 2, 3), y.lay(cell, thick, 2, 3));
+        int child = next(16), day = next(10);
+        due(run, "children", x.children(child, 1), y.children(child, 1));
+        due(run, "warm", x.warm(day, true), y.warm(day, true));
+        for (int k = 0; k < 4; k++) {
+            int odds = next(11);
+            due(run, "odds", x.odds(k, odds), y.odds(k, odds));
+        }
+        for (int i = 0; i < 8; i++) {
+            int n = 1 + next(96), part = next(2);
+            due(run, "sure " + n, x.sure(n, part), y.sure(n, part));
+            due(run, "go", x.go(3), y.go(3));
+        }
+    }
+
+    /** Days above 99, and the last hour of all. */
+    private void goLate(int run, IceBears x, Model y) {
+        for (int i = 9 + next(33); i > 0; i--) due(run, "go", x.go(240), y.go(240));
+        for (int i = next(9); i > 0; i--) {
+            due(run, "go", x.go(24), y.go(24));
+            due(run, "cold", x.cold(i), y.cold(i));
+        }
+    }
+
     private void runOnce(int run) {
         IceBears x = new IceBears();
         Model y = new Model();
@@ -171,6 +199,8 @@ final class ModelTest {
             due(run, "place", x.place(i, b, c), y.place(i, b, c));
         }
         if (next(5) != 0) say(run, x, y, text());
+        if (next(4) == 0) begin(run, x, y);
+        if (next(25) == 0) goLate(run, x, y);
         // What one turn makes and the last look stay within what is left of an object's calls.
         while (calls < CALLS - 60) {
             int part = next(20);

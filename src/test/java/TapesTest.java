@@ -27,6 +27,12 @@ final class TapesTest {
         due("33: nothing, n does not matter", pond.tape(0, -1, 61), 1);
         due("33: nothing, n below 0", pond.tape(0, -1, -9), 1);
         due("33: nothing there", pond.item(0, 0, 0), -11);
+        due("35: nothing there", pond.read(0, 0), IceBears.NO);
+        pond.tape(4, 3, 2);
+        pond.item(4, 0, 9);
+        pond.item(4, 1, 9);
+        pond.tape(4, 3, 3);
+        for (int i = 0; i < 3; i++) due("33: all 0, " + i, pond.read(4, i), 0);
     }
 
     private static void itemsKeepTheirLowestBits() {

@@ -117,6 +117,19 @@ final class WintersTest {
         due("7: as it was", pond.told(0, 2), 3);
     }
 
+    private static void whatIsReadUpToAFaultIsForgotten() {
+        IceBears pond = new IceBears();
+        due("7: two clauses and a fault", Check.read(pond, "frost 9 h<24;bears 3;thaw x"), -36);
+        due("7: a good one", Check.read(pond, "frost 1 h=5"), 0);
+        due("7: its own frost alone", pond.told(5, 0), 1);
+        due("7: at its own hour alone", pond.told(4, 0), 0);
+        due("7: no bears", pond.told(5, 2), 10);
+        due("7: a long one", Check.read(pond, "frost 1 " + "h=1|".repeat(22) + "h="), -108);
+        due("7: a long one", Check.read(pond, "frost 7 " + "h=1|".repeat(22) + "h=23"), 1);
+        due("7: to its end", pond.told(23, 0), 7);
+        due("7: and there alone", pond.told(22, 0), 0);
+    }
+
     private static void told(String text, int what, int hour, int want) {
         IceBears pond = new IceBears();
         Check.read(pond, text);
@@ -180,6 +193,7 @@ final class WintersTest {
         textsThatAreWinters();
         textsThatAreNone();
         theNewestHolds();
+        whatIsReadUpToAFaultIsForgotten();
         frostIsAllFrostLessAllThaw();
         warmDaysAreTold();
         CHECK.end();
