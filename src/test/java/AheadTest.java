@@ -59,6 +59,8 @@ final class AheadTest {
         due("14: what -1", pond.thin(0, -1), IceBears.NONE);
         due("14: it changes nothing", pond.of(6, 0), 20);
         due("14: all of none are half of it", new IceBears().thin(99, 2), 16);
+        for (int cell = 0; cell < 16; cell++) pond.lay(cell, cell == 0 ? 100 : 50, 0, 0);
+        due("14: the first is the thickest", pond.thin(0, 2), 15);
         due("14: the first of all", new IceBears().thin(99, 0), 0);
         IceBears one = new IceBears();
         one.lay(0, 1, 0, 0);

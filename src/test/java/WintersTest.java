@@ -125,6 +125,7 @@ final class WintersTest {
         due("7: at its own hour alone", pond.told(4, 0), 0);
         due("7: no bears", pond.told(5, 2), 10);
         due("7: a long one", Check.read(pond, "frost 1 " + "h=1|".repeat(22) + "h="), -108);
+        due("7: again", Check.read(pond, "frost 1 " + "h=1|".repeat(22) + "h="), -108);
         due("7: a long one", Check.read(pond, "frost 7 " + "h=1|".repeat(22) + "h=23"), 1);
         due("7: to its end", pond.told(23, 0), 7);
         due("7: and there alone", pond.told(22, 0), 0);
